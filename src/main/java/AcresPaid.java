@@ -338,7 +338,7 @@ public final class AcresPaid {
         if (!register.isFarm(farm) || !isYear(year) || !isDay(k) || !within(what, 0, 6)) {
             return VOID;
         }
-        int all = accounts.pay(farm, year, k);
+        int all = accounts.pay(farm, year, k, NONE);
         if (what == 0) {
             return all;
         }
@@ -834,7 +834,7 @@ public final class AcresPaid {
             int bits = 0;
             for (int i = 0; i < outs; i++) {
                 boolean known = outOn[i] <= k && outStart[i] <= year * YEAR_DAYS;
-                if (known && within(y, outFrom[i] % 100, outTo[i] % 100)) {
+                if (known && outFrom[i] % 100 <= y && y <= outTo[i] % 100) {
                     bits |= (2 << outTo[i] / 100) - (1 << outFrom[i] / 100);
                 }
             }
@@ -913,7 +913,13 @@ public final class AcresPaid {
         void build(int knownOn, int newStamp) {
             k = knownOn;
             stamp = newStamp;
-            listClaims();
+            n = 0;
+            for (int i = 0; i < claims.n; i++) {
+                if (claims.counts(i, year, k)) {
+                    list[n] = claims.order[i];
+                    n++;
+                }
+            }
             Arrays.fill(sizes, 0);
             for (int y = 0; y < SIDE; y++) {
                 fault[y] = faultOfRow(y);
@@ -954,16 +960,6 @@ public final class AcresPaid {
                 return squares[farm] == 0 ? 0 : 999;
             }
             return Math.min(999, 100 * misses[farm] / found);
-        }
-
-        private void listClaims() {
-            n = 0;
-            for (int i = 0; i < claims.n; i++) {
-                if (claims.counts(i, year, k)) {
-                    list[n] = claims.order[i];
-                    n++;
-                }
-            }
         }
 
         private int faultOfRow(int y) {
@@ -1229,7 +1225,7 @@ public final class AcresPaid {
         }
 
         private static boolean isDigit(int sign) {
-            return within(sign, '0', '9');
+            return '0' <= sign && sign <= '9';
         }
 
         private int number() {
@@ -1293,7 +1289,10 @@ public final class AcresPaid {
             names[PERMITS_HELD] = permitsOf(farm, year, k);
             names[SUM_SO_FAR] = 0;
             names[MAJEURE] = claims.isProved(farm, year, k) ? 1 : 0;
-            names[ERRORS_BEFORE] = yearsOfErrors(farm, year, k);
+            names[ERRORS_BEFORE] = 0;
+            for (int y = 0; y < year; y++) {
+                names[ERRORS_BEFORE] += season(y, k).misses[farm] > 0 ? 1 : 0;
+            }
         }
 
         /** Sums a farm's counted squares by crop; answers those in meadows. */
@@ -1337,26 +1336,14 @@ public final class AcresPaid {
             return register.holderOf(permit, year * YEAR_DAYS + YEAR_DAYS - 1, k) == farm;
         }
 
-        private int yearsOfErrors(int farm, int year, int k) {
-            int years = 0;
-            for (int y = 0; y < year; y++) {
-                years += season(y, k).misses[farm] > 0 ? 1 : 0;
-            }
-            return years;
-        }
-
-        int pay(int farm, int year, int k) {
+        /** Works out the steps; rate is a text in place of that in force, or NONE. */
+        int pay(int farm, int year, int k, int rate) {
             know(farm, year, k);
-            int rate = texts.standing(register.measures[farm] * 10 + RATE, year, k);
-            return payBy(rate, farm, year, k);
-        }
-
-        /** Works out the steps, by the names that are known; rate is a text, or NONE. */
-        private int payBy(int rate, int farm, int year, int k) {
-            int squares = Math.min(names[FOUND], SQUARES_OF_A_PERMIT * names[PERMITS_HELD]);
-            long each = rate == NONE ? 1 : texts.say(rate, names);
-            sums[1] = held(each * squares + valueOf(squares, farm, year, k));
             int uses = register.measures[farm] * 10;
+            int text = rate == NONE ? texts.standing(uses + RATE, year, k) : rate;
+            int squares = Math.min(names[FOUND], SQUARES_OF_A_PERMIT * names[PERMITS_HELD]);
+            long each = text == NONE ? 1 : texts.say(text, names);
+            sums[1] = held(each * squares + valueOf(squares, farm, year, k));
             sums[2] = greened(sums[1], texts.standing(uses + GREEN, year, k));
             sums[3] = stepped(sums[2], texts.standing(uses + STEP, year, k));
             sums[4] = fined(sums[3], texts.standing(uses + FINE, year, k));
@@ -1412,7 +1399,7 @@ public final class AcresPaid {
         }
 
         int keepSettled(int farm, int year) {
-            int all = pay(farm, year, register.day);
+            int all = pay(farm, year, register.day, NONE);
             settled[farm * YEARS + year] = all;
             return all;
         }
@@ -1421,7 +1408,7 @@ public final class AcresPaid {
             long owed = 0;
             int present = register.day / YEAR_DAYS;
             for (int year = 0; year < present && year < YEARS; year++) {
-                owed += pay(farm, year, register.day) - settled[farm * YEARS + year];
+                owed += pay(farm, year, register.day, NONE) - settled[farm * YEARS + year];
             }
             return (int) Math.max(LEAST_BACK, Math.min(MOST_COINS, owed));
         }
@@ -1430,7 +1417,7 @@ public final class AcresPaid {
             int land = register.measures[farm];
             long all = 0;
             for (int i = 0; i < register.n; i++) {
-                dues[i] = register.isFarmOf(i, land) ? pay(i, year, register.day) : 0;
+                dues[i] = register.isFarmOf(i, land) ? pay(i, year, register.day, NONE) : 0;
                 all += dues[i];
             }
             if (all <= budget || all <= 0) {
@@ -1455,8 +1442,8 @@ public final class AcresPaid {
             int changed = 0;
             for (int i = 0; i < register.n; i++) {
                 if (register.isFarmOf(i, land)) {
-                    int now = pay(i, year, register.day);
-                    int then = payBy(text, i, year, register.day);
+                    int now = pay(i, year, register.day, NONE);
+                    int then = pay(i, year, register.day, text);
                     changed += (more ? then > now : then < now) ? 1 : 0;
                 }
             }

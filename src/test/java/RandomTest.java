@@ -15,6 +15,9 @@ public final class RandomTest {
     private static final int[] EXTREMES = {Integer.MIN_VALUE, Integer.MAX_VALUE, -1, -2, 0, 1, 100, 149, 150, 365, 576, 3649, 3650,
         1 << 30, -2000000000, 2000000000, 2000000001, Integer.MIN_VALUE + 1, Integer.MAX_VALUE - 1};
 
+    private static final String[] PLAUSIBLE = {"s/2+1", "c>1?7;3", "g+t>50", "1", "m>100?100+(m-100)/2;m", "m-l*2;0", "e>2?e*2;b*10", "e>20?100;e>2?30;0",
+        "p*k+y", "j?0;e", "999999*999999", "0-5", "m*2", "b>0?50"};
+
     private static final Map<String, Method> FACE = new HashMap<>();
     private static final Map<String, Method> MODEL = new HashMap<>();
 
@@ -101,14 +104,15 @@ public final class RandomTest {
     private void build() {
         int farms = style == 1 ? 12 : 2 + below(4);
         for (int i = 0; i < farms; i++) add("farm", new int[] {1, 2, 3, 7}[below(4)], style == 1 ? 0 : below(2));
-        if (chance(50)) add("body");
         int fields = style == 1 ? 14 : style == 2 ? 3 : 5 + below(5);
         for (int i = 0; i < fields; i++) aRing(below(farms));
         int permits = below(6);
         for (int i = 0; i < permits; i++) {
             add("permit", 1 + below(style == 3 ? 999 : 20));
+            if (chance(80)) add("handOver", farms + fields + i, below(farms), below(400));
         }
-        if (style == 4) for (int i = 0; i < 120; i++) add("farm", 1 + below(3), 0);
+        if (chance(50)) add("body");
+        if (style == 4) for (int i = 0; i < 140; i++) add(i % 30 == 0 ? "body" : "farm", i % 30 == 0 ? new Object[0] : new Object[] {1 + below(3), 0});
     }
 
     private int size() { return style == 1 ? 24 : style == 2 ? 5 : 10; }
@@ -132,10 +136,10 @@ public final class RandomTest {
         }
         if (chance(10)) corners.get(below(corners.size()))[below(2)] = below(25);
         if (chance(3)) corners.remove(0);
+        add("uncorner");
         for (int[] c : corners) add("corner", c[0], c[1]);
         if (chance(20)) add("area");
         add("field", farm, chance(25) ? 1 : 0);
-        if (chance(3)) add("uncorner");
     }
 
     private void aWalk() {
@@ -183,6 +187,7 @@ public final class RandomTest {
             if (chance(60)) t.append(expression(0)).append('?');
             t.append(expression(0));
         }
+        if (chance(25)) t = new StringBuilder(PLAUSIBLE[below(PLAUSIBLE.length)]);
         if (chance(15)) t.setCharAt(below(t.length()), (char) (chance(80) ? "yksfgctlepmjb01(!-)+;?&|<=>z ".charAt(below(29)) : below(256)));
         if (chance(5)) t.setLength(below(t.length() + 1));
         if (chance(5)) t = new StringBuilder("-".repeat(below(6))).append("!(".repeat(below(3))).append(t);
@@ -209,7 +214,7 @@ public final class RandomTest {
             case 14: case 15: aControl(); break;
             case 16: add("majeure", aFarm(), aYear()); break;
             case 17: add("colour", below(8), below(6), below(chance(50) ? 100 : 12)); break;
-            case 18: add("see", aField(), aYear(), below(6), below(9) - 1); break;
+            case 18: aSight(); break;
             case 19: add("blank", below(6) - 2); break;
             case 20: case 21: add("looks", aField(), aYear(), below(2)); break;
             case 22: aText(); break;
@@ -223,13 +228,33 @@ public final class RandomTest {
             case 35: if (chance(30)) add("lots", random.nextInt()); aDraw(); break;
             case 36: add("rate", aYear(), below(3), 100 * (1 + below(99)) + 1 + below(49)); break;
             case 37: aMix(); break;
-            case 38: case 39: add("tried", below(Math.max(1, model.texts.size())), below(2), aYear(), below(2)); break;
+            case 38: case 39: add("tried", aRate(), below(2), aYear(), below(2)); break;
             case 40: add("act", anyBody(), below(4), random.nextInt()); add("trace", below(26)); add("count", 11); break;
             case 41: case 42: aShelf(); break;
             case 43: odd(); break;
             case 44: if (style == 2) aWalk(); else aRing(aFarm()); break;
             default: add("count", below(14) - 1); break;
         }
+    }
+
+    private int aRate() {
+        int text = below(Math.max(1, model.texts.size()));
+        for (int i = 0; i < 10 && text < model.texts.size() && model.texts.get(text).what() % 10 != 0; i++) {
+            text = below(model.texts.size());
+        }
+        return text;
+    }
+
+    private void aSight() {
+        int shelf = below(6);
+        if (chance(60)) {
+            int n = 1 + below(9);
+            add("row", shelf, 0, n);
+            for (int i = 0; i < n; i++) if (chance(70)) add("put", shelf, i, chance(20) ? (long) model.blank : (long) below(40) - 5);
+        }
+        int field = aField(), year = aYear();
+        add("see", field, year, shelf, chance(60) ? 0 : below(9) - 1);
+        add("looks", field, year, below(2));
     }
 
     private void aClaim() {
