@@ -115,6 +115,8 @@ public final class PicksTest {
         for (int[] b : bad) {
             IT.due("36: bad", -1, x.draw(b[0], b[1], b[2]));
         }
+        IT.due("36: one", 1, x.draw(0, 0, 1));
+        IT.due("37: by risk, without a lot", 0, x.drawn(0));
         IT.due("35: lots", 1, x.lots(-5));
         IT.due("36: four", 4, x.draw(0, 0, 4));
         IT.due("37: by risk", 0, x.drawn(0));
