@@ -215,20 +215,27 @@ public final class BodiesTest {
 
     private static final int VOID = -2000000000;
 
-    private static void promise11() {
+    /** A U: open between x 2 and 4 from y 2 on. */
+    private static AcresPaid withU() {
         AcresPaid x = new AcresPaid();
         x.farm(1, 0);
-        // a U: open between x 2 and 4 from y 2 on
         Checks.ring(x, 0, 0, 6, 0, 6, 4, 4, 4, 4, 2, 2, 2, 2, 4, 0, 4);
         x.field(0, 0);
+        return x;
+    }
+
+    private static void promise11() {
         int inside = 0;
-        for (int i = 0; i < 24; i++) {
-            for (int j = 0; j < 24; j++) {
+        for (int j = 0; j < 24; j++) {
+            AcresPaid x = withU();
+            for (int i = 0; i < 24; i++) {
                 boolean in = i < 6 && j < 4 && !(i >= 2 && i < 4 && j >= 2);
-                IT.due("11: has " + i + ", " + j, in ? 1 : 0, x.has(1, i, j));
-                inside += x.has(1, i, j);
+                int has = x.has(1, i, j);
+                IT.due("11: has " + i + ", " + j, in ? 1 : 0, has);
+                inside += has;
             }
         }
+        AcresPaid x = withU();
         IT.due("11: as many as its area", x.ofBody(1, 1), inside);
         IT.due("11: no field", -1, x.has(0, 0, 0));
         IT.due("11: x 24", -1, x.has(1, 24, 0));

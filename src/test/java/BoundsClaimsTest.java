@@ -22,6 +22,7 @@ public final class BoundsClaimsTest {
         fortyOuts();
         countedArguments();
         countedAsKnown();
+        toldBetweenTwoQuestions();
         missingSquares();
         theLatestControl();
         controlArguments();
@@ -384,6 +385,61 @@ public final class BoundsClaimsTest {
         }
     }
 
+    /** Tells one thing of a country of two farms with fields 2, 3 and 4, of which 2 and 3 are claimed. */
+    private static void tell(AcresPaid x, int what) {
+        switch (what) {
+            case 0:
+                x.body();
+                break;
+            case 1:
+                x.giveUp(3);
+                break;
+            case 2:
+                x.claim(1, 4, 0);
+                break;
+            case 3:
+                x.out(0, 0, 0);
+                break;
+            default:
+                x.control(0, 2, 0, 3);
+                break;
+        }
+    }
+
+    private static AcresPaid twoClaims() {
+        AcresPaid x = farms(2);
+        Checks.field(x, 0, 0, 0, 6, 1);
+        Checks.field(x, 0, 4, 0, 8, 1);
+        Checks.field(x, 1, 1, 0, 3, 1);
+        x.claim(0, 2, 0);
+        x.claim(0, 3, 0);
+        return x;
+    }
+
+    /** What was asked ahead of telling changes nothing of what is answered behind it. */
+    private static void toldBetweenTwoQuestions() {
+        for (int a = 0; a < 5; a++) {
+            for (int b = 0; b < 5; b++) {
+                AcresPaid x = twoClaims();
+                AcresPaid y = twoClaims();
+                x.named(0, 0, 0, 2);
+                tell(x, a);
+                tell(x, b);
+                tell(y, a);
+                tell(y, b);
+                for (int name = 2; name <= 8; name++) {
+                    IT.due("28: told " + a + ", " + b + ", name " + name, y.named(0, 0, 0, name), x.named(0, 0, 0, name));
+                }
+                boolean upThird = a == 1 || b == 1, fourth = a == 2 || b == 2, out = a == 3 || b == 3, control = a == 4 || b == 4;
+                int counted = 6 - (fourth ? 2 : 0) - (out ? 1 : 0);
+                IT.due("18: counted", counted, x.counted(0, 2, 0, 0, 0));
+                IT.due("18: found", counted - (control ? 3 : 0), x.counted(0, 2, 0, 0, 1));
+                IT.due("18: the other", upThird ? NOT : 2, x.counted(0, 3, 0, 0, 0));
+                IT.due("33: least", fourth ? 2 : 0, x.least(0));
+            }
+        }
+    }
+
     /** "missing (told .. 0 .. 576; .. held at COUNTED)". */
     private static void missingSquares() {
         int[][] want = {{MIN, BAD, 12}, {-1, BAD, 12}, {0, 1, 12}, {1, 1, 11}, {11, 1, 1}, {12, 1, 0}, {13, 1, 0}, {575, 1, 0}, {576, 1, 0}, {577, BAD, 12},
@@ -462,7 +518,7 @@ public final class BoundsClaimsTest {
         IT.due("19: none of this year", NOT, x.control(0, field, 1, 2));
         x.giveUp(field);
         IT.due("19: given up today", NOT, x.control(0, field, 0, 3));
-        IT.due("19: as told", 10, x.counted(0, field, 0, 364, 1) - 1);
+        IT.due("19: as known ahead of the second", 11, x.counted(0, field, 0, 364, 1));
         IT.due("19: two", 2, x.count(6));
     }
 

@@ -17,6 +17,7 @@ public final class BoundsRingsTest {
         twelveCorners();
         noneAfterUncorner();
         fourToTwelveEven();
+        oddOnesThatClose();
         theFirstAcross();
         noneOfLengthNought();
         noPointInCommon();
@@ -123,6 +124,19 @@ public final class BoundsRingsTest {
             // on the last side, half way to the first corner
             more.corner(0, 1);
             IT.due("7: of one more", n == 12 ? AREAS[i] : NOT, more.area());
+        }
+    }
+
+    /** "(an even number)": from the middle of the first side on, one more corner goes all its ways, and closes. */
+    private static void oddOnesThatClose() {
+        for (int i = 0; i < 4; i++) {
+            int n = SOUND[i].length;
+            int[] odd = new int[n + 2];
+            System.arraycopy(SOUND[i], 0, odd, 0, n);
+            odd[0] = 1;
+            odd[n] = 0;
+            odd[n + 1] = 0;
+            IT.due("7: of " + (n / 2 + 1) + " corners that close", NOT, with(odd).area());
         }
     }
 
