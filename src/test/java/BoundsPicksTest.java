@@ -112,6 +112,15 @@ public final class BoundsPicksTest {
         least(x, 3, a);
         x.giveUp(a);
         least(x, 0);
+        // fields told behind two that meet in the last row don't meet by that
+        AcresPaid y = farms(2);
+        Checks.field(y, 0, 0, 23, 24, 24);
+        claimed(y, 0, 0, 0, 2, 1);
+        Checks.field(y, 1, 0, 23, 24, 24);
+        claimed(y, 1, 5, 5, 7, 6);
+        int e = claimed(y, 1, 0, 0, 1, 1);
+        int f = claimed(y, 0, 5, 5, 6, 6);
+        least(y, 2, e, f);
     }
 
     /** "the set with the least AREA together that must be given up so that no square is in FAULT". */
